@@ -85,6 +85,10 @@ public final class PagePairsPromises {
 
     private static void promise1() {
         promise = 1;
+        due("INVALID_ARGUMENT", INVALID, -1);
+        due("NOT_POSSIBLE", IMPOSSIBLE, -2);
+        due("LIMIT_REACHED", LIMIT, -3);
+        due("NOT_FOUND", NONE, -4);
         PagePairs x = new PagePairs();
         int[] counts = {0, 1, 0, 0, 0, 0, NONE, 0, 0, 0, 0, 0, 0, 0, 0, 0, 0, 0, INVALID, INVALID, 2, 5, 1, 3};
         for (int what = 0; what < counts.length; what++) {
@@ -244,6 +248,20 @@ public final class PagePairsPromises {
         due("one position", twice.count(3), 1);
         twice.cut();
         due("it was not gone by a cut", twice.count(8), 0);
+        PagePairs many = written(1);
+        many.turn();
+        many.write(0, 200, 0);
+        many.tick(1);
+        for (int times = 1; times <= 8; times++) {
+            due("cleaned again", many.clean(0), 1);
+        }
+        due("no room", many.clean(0), LIMIT);
+        many.tick(1);
+        due("it was being written", many.count(4), 8);
+        due("they are done in one tick", many.doneIn(), 1);
+        many.tick(1);
+        due("all passed over in one tick", many.count(4), 0);
+        due("no position for them", many.count(3), 1);
         PagePairs first = written(1);
         first.turn();
         first.clean(0);
