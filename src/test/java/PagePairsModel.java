@@ -10,6 +10,9 @@ import java.util.regex.Pattern;
 public final class PagePairsModel {
     private static final int RUNS = 1500;
     private static final int CALLS = 150;
+    /** Of so many runs one goes on as long as an object may be used, and with many ticks, beyond the last time. */
+    private static final int LONG_EACH = 25;
+    private static final int LONG_CALLS = 512;
 
     private static final class Page {
         char state = 'b';
@@ -475,6 +478,7 @@ public final class PagePairsModel {
             Pattern.compile("(?:[wu][0-9]{1,3},[0-9]{1,3}|[tce][0-9]{1,3}|[xos]);");
 
     private final Random random;
+    private final boolean isLong;
     private final PagePairs real = new PagePairs();
     private final Deque<Model> history = new ArrayDeque<>();
     private final StringBuilder text = new StringBuilder();
@@ -484,6 +488,7 @@ public final class PagePairsModel {
 
     private PagePairsModel(long seed) {
         random = new Random(seed);
+        isLong = seed % LONG_EACH == 0;
     }
 
     public static void main(String[] args) {
@@ -498,7 +503,8 @@ public final class PagePairsModel {
     }
 
     private int run() {
-        for (int call = 0; call < CALLS && wrong == 0; call++) {
+        int calls = isLong ? LONG_CALLS : CALLS;
+        for (int call = 0; call < calls && wrong == 0; call++) {
             change();
             if (call % 3 == 0) {
                 compareAll();
@@ -539,7 +545,7 @@ public final class PagePairsModel {
             a = kind < 15 ? a % 4 : a;
             changed("write(" + a + ", " + b + ", " + c + ")", real.write(a, b, c), before, model.write(a, b, c));
         } else if (kind < 62) {
-            int many = kind < 57 ? 1 + upTo(9) : upTo(202);
+            int many = kind < 57 && !isLong ? 1 + upTo(9) : upTo(202);
             changed("tick(" + many + ")", real.tick(many), before, model.tick(many));
         } else if (kind < 66) {
             changed("cut()", real.cut(), before, model.cut());
